@@ -1735,7 +1735,11 @@ public final class SlotSeries {
             }
             from = value;
             advance();
-            if (!takeSign('-') || !isNumber(from + MIN_SPAN - 1, season.length - 1)) {
+            if (!isSign('-')) {
+                return fail(1);
+            }
+            advance();
+            if (!isNumber(from + MIN_SPAN - 1, season.length - 1)) {
                 return false;
             }
             to = value;

@@ -150,6 +150,24 @@ public final class PromisesTest {
         tape(x, "weeks 5;carrier abc");
         due(3, "end(13)", x.end(13), 13);
         due(3, "what end() left", text(x, "er a;"), 2);
+        tape(x, "weeks 12;").end(7);
+        due(3, "no digit behind the end", x.text(), -4);
+        due(3, "no digit behind the end", x.fault(0) * 10 + x.fault(1), 26);
+        tape(x, "weeks 55;").end(7);
+        due(3, "no digit behind the end", x.text() * 100 + x.fault(0) * 10 + x.fault(1), -400 + 17);
+        tape(x, "weeks 5;carrier ab;").end(17);
+        due(3, "no letter behind the end", x.text() * 100 + x.fault(0) * 10 + x.fault(1), -400 + 27);
+        tape(x, "weeks 5  ").end(8);
+        due(3, "no blank behind the end", x.text() * 100 + x.fault(0) * 10 + x.fault(1), -400 + 18);
+        // A TAPE that is full to its last byte.
+        due(4, "a full TAPE of blanks", text(x, "weeks 5;" + " ".repeat(1192)), 1);
+        due(4, "a full TAPE of one number", text(x, "weeks " + "0".repeat(1194)), -4);
+        due(5, "its fault", x.fault(0) * 10000 + x.fault(1), 20006);
+        due(4, "a full TAPE of one word", text(x, "w".repeat(1200)), -4);
+        due(5, "its fault", x.fault(0) * 10000 + x.fault(1), 10000);
+        due(4, "a full TAPE that lacks its end", text(x, "weeks " + "0".repeat(1193) + "5"), -4);
+        due(5, "its fault", x.fault(0) * 10000 + x.fault(1), 11200);
+        due(4, "a full TAPE that stands", text(x, "weeks " + "0".repeat(1192) + "5;"), 1);
     }
 
     private static void texts() {
@@ -374,6 +392,9 @@ public final class PromisesTest {
         due(15, "at(3, 0, 8, 2)", x.at(3, 0, 8, 2), 3);
         due(15, "at(3, 0, 8, 3)", x.at(3, 0, 8, 3), -1);
         due(15, "at(9, 0, 8, 1)", x.at(9, 0, 8, 1), 3);
+        due(15, "at(3, 1, 8, 0)", x.at(3, 1, 8, 0), 0);
+        due(15, "at(3, 1, 8, 1)", x.at(3, 1, 8, 1), -1);
+        due(15, "at(3, 6, 0, 0)", x.at(3, 6, 0, 0), -1);
         due(15, "at(9, 0, 8, far)", x.at(9, 0, 8, MAX), -1);
         due(16, "room(3, 0, 8, 0)", x.room(3, 0, 8, 0), 1);
         due(16, "room(3, 0, 8, 1)", x.room(3, 0, 8, 1), 2);
@@ -388,6 +409,14 @@ public final class PromisesTest {
         due(14, "load in without a GIVEN one", x.load(4, 0, 8, 1), 0);
         due(15, "at without a GIVEN one", x.at(4, 0, 8, 0), 2);
         due(16, "room with a GIVEN one", x.room(4, 0, 8, 0), 2);
+        // Nor do objects that were used ahead of it show: a series that was undone.
+        x = with("weeks 5;carrier a;ask a mon 0 in 0-4;");
+        x.pool();
+        x.undo();
+        due(14, "load without series", x.load(0, 0, 0, 0) + x.load(0, 0, 0, 1), 0);
+        due(15, "at without series", x.at(0, 0, 0, 0), -1);
+        due(22, "sum without series", x.sum(0, 0), 0);
+        due(21, "entrant without series", x.entrant(0, 0), 1);
         // What is retimed brings its past weeks along.
         x = with("weeks 10;limit 8 1 in 1;carrier a;series a mon 8 in 0-9;series a mon 9 in 0-4;");
         ticks(x, 5);
@@ -544,6 +573,16 @@ public final class PromisesTest {
         due(27, "fits(2), the season being over", x.fits(2), -1);
         noSuch(27, "fits", x.fits(6), x.fits(-1), x.fits(MAX));
         noSuch(28, "where", x.where(6), x.where(-1), x.where(MIN));
+        x = with("weeks 6;limit 0 0 in 0;carrier a;ask a mon 5 in 0-4;");
+        due(25, "full of the first HOUR", x.full(6), 6);
+        due(26, "fitting but the first HOUR", x.fitting(6, 1, 0, 5), ALL_HOURS & ~1);
+        ticks(x, 4);
+        due(27, "fits with its last WEEK", x.fits(0), 1);
+        due(28, "where with its last WEEK", x.where(0), 5);
+        x.tick();
+        due(27, "fits behind its last WEEK", x.fits(0), -1);
+        x = with("weeks 5;limit 1 0 in 0;carrier a;ask a mon 1 in 0-4 by 1;");
+        due(28, "where: the first HOUR", x.where(0), 0);
         // The last hours of the day: none below 0, none above 23; of two as near the earlier one.
         x = with("weeks 5;limit 0 0 in 0;limit 1 0 in 0;limit 23 0 in 0;limit 10 0 in 0;carrier a;"
                 + "ask a mon 0 in 0-4 by 1;ask a mon 0 in 0-4 by 2;ask a mon 23 in 0-4 by 1;ask a mon 10 in 0-4 by 1;ask a mon 23 in 0-4;");
@@ -685,6 +724,10 @@ public final class PromisesTest {
         x = with("weeks 6;");
         due(32, "helps(0) of none", x.helps(0), 0);
         due(32, "helps(1) of none", x.helps(1), 0);
+        x = with("weeks 6;limit 0 0 in 0;carrier a;ask a mon 0 in 0-5;");
+        due(32, "helps(0): the first HOUR", x.helps(0) * 10 + x.helps(1), 1);
+        x = with("weeks 6;limit 23 0 in 0;carrier a;ask a mon 23 in 0-5;");
+        due(32, "helps(0): the last HOUR", x.helps(0) * 10 + x.helps(1), 231);
         StringBuilder b = new StringBuilder("weeks 6;limit 9 9 in 9;carrier a;");
         for (int i = 0; i < 10; i++) b.append("ask a mon 9 in 0-5;");
         x = with(b.toString());
@@ -712,10 +755,17 @@ public final class PromisesTest {
         x.back(1, 4);
         due(34, "common without GIVEN ones", x.common(0, 1), 3);
         due(34, "common of one without GIVEN ones", x.common(1, 1), 3);
+        due(34, "common without the other's GIVEN ones", x.common(1, 0), 3);
         noSuch(34, "common", x.common(0, 4), x.common(4, 0), x.common(-1, 0), x.common(0, -1), x.common(MAX, MIN));
         due(35, "idle(0)", x.idle(0), ALL_HOURS & ~96);
         due(35, "idle(1)", x.idle(1), ALL_HOURS & ~32);
         due(35, "idle(6)", x.idle(6), ALL_HOURS);
+        due(35, "retime", x.retime(3, 0), 5);
+        due(35, "idle(1) of the first HOUR", x.idle(1), ALL_HOURS & ~1);
+        due(35, "retime", x.retime(3, 23), 0);
+        due(35, "idle(1) of the last HOUR", x.idle(1), ALL_HOURS >> 1);
+        due(35, "retime", x.retime(0, 0), 5);
+        due(35, "idle(0) of the first SERIES", x.idle(0), ALL_HOURS & ~97);
         ticks(x, 5);
         due(35, "idle(0) in the last WEEK", x.idle(0), ALL_HOURS & ~64);
         x.tick();
@@ -878,6 +928,13 @@ public final class PromisesTest {
         due(44, "swap(0, 3)", x.swap(0, 3), 1);
                 ticks(x, 10);
         due(44, "swap, the season being over", x.swap(0, 2), 1);
+        // GIVEN weeks ask for no room, of either one.
+        x = with("weeks 10;limit 7 1 in 1;carrier a;carrier b;series a mon 7 in 0-4;series a mon 7 in 5-9;series b mon 8 in 0-9;");
+        x.back(2, 5);
+        due(44, "swap(2, 0) with GIVEN weeks", x.swap(2, 0), 1);
+        x.undo();
+        due(44, "swap(0, 2) with GIVEN weeks", x.swap(0, 2), 1);
+        due(57, "partners(1): weeks 0 to 4 are taken", x.partners(1), 4);
         // Like ones, at one full hour.
         x = with("weeks 5;limit 7 3 in 1;carrier a;carrier b;series a mon 7 out 0-4;series b mon 7 in 0-4;series b mon 7 out 0-4;");
         due(44, "swap of like ones", x.swap(0, 2), 1);
@@ -1059,12 +1116,21 @@ public final class PromisesTest {
         due(54, "rate(1): 4 of 6", x.rate(1), 66);
         x.back(2, 4);
         due(54, "rate of BASIS 0", x.rate(2), -1);
+        x.undo();
+        x.excuse(2, 4);
+        x.back(2, 5);
+        due(54, "rate of BASIS 1", x.rate(2), 100);
+        due(18, "stands of BASIS 1", x.stands(2), 1);
         ticks(x, 9);
         due(54, "rate(0) of all", x.rate(0), 100);
         noSuch(54, "rate", x.rate(3), x.rate(-1), x.rate(MAX));
         x = with("weeks 9;carrier a;series a mon 5 in 0-8;series a mon 5 in 4-8;");
         due(55, "longest(0) of none", x.longest(0), 0);
+        x.miss(0, 1);
         x.miss(0, 0);
+        due(55, "longest(0) from the start", x.longest(0), 2);
+        x.fly(0, 1);
+        due(55, "longest(0)", x.longest(0), 1);
         x.miss(0, 2);
         x.miss(0, 3);
         x.miss(0, 5);
@@ -1091,6 +1157,9 @@ public final class PromisesTest {
         due(58, "pairs(1, 0, 23)", x.pairs(1, 0, 23), 0);
         x.back(0, 6);
         due(58, "pairs without GIVEN ones", x.pairs(0, 0, 2), 2);
+        x.undo();
+        x.back(2, 6);
+        due(58, "pairs without the other's GIVEN ones", x.pairs(0, 0, 2), 2);
         noSuch(58, "pairs", x.pairs(2, 0, 0), x.pairs(-1, 0, 0), x.pairs(0, 7, 0), x.pairs(0, -1, 0), x.pairs(0, 0, 24), x.pairs(0, 0, -1), x.pairs(MAX, MIN, MAX));
     }
 
@@ -1121,6 +1190,14 @@ public final class PromisesTest {
         due(61, "OUT stays behind text()", out(x).equals(want) ? 1 : 0, 1);
         told(60, x, "weeks 5;");
         due(61, "the shorter OUT", x.octet(8), -1);
+        text(x, "weeks 30;carrier a;series a mon 0 in 25-29;series a mon 0 in 0-29;ask a mon 0 in 0-29 by 1;");
+        told(60, x, "weeks 30;carrier a;series a mon 0 in 25-29;series a mon 0 in 0-29;ask a mon 0 in 0-29 by 1;");
+        // The weeks that were given back stand in it till the season ends.
+        x.back(1, 20);
+        told(60, x, "weeks 30;carrier a;series a mon 0 in 25-29;series a mon 0 in 0-29;ask a mon 0 in 0-29 by 1;");
+        ticks(x, 30);
+        x.ends();
+        told(60, x, "weeks 30;carrier a;series a mon 0 in 25-29;series a mon 0 in 0-19;");
         // The longest text of all: it takes more than a TAPE, so part of it comes by acts.
         StringBuilder b = new StringBuilder("weeks 30;");
         for (int i = 0; i < 8; i++) b.append("carrier abcde" + (char) ('a' + i) + ";");
