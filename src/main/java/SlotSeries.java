@@ -963,24 +963,6 @@ public final class SlotSeries {
         return (bits >>> i & 1) != 0;
     }
 
-    private static int lowestBit(int bits) {
-        for (int w = 0; w < MAX_WEEKS; w++) {
-            if (hasBit(bits, w)) {
-                return w;
-            }
-        }
-        return NONE;
-    }
-
-    private static int highestBit(int bits) {
-        for (int w = MAX_WEEKS - 1; w >= 0; w--) {
-            if (hasBit(bits, w)) {
-                return w;
-            }
-        }
-        return NONE;
-    }
-
     /** The bits from one number to another; at most 30 of them, as there are no more weeks. */
     private static int spanBits(int from, int to) {
         return (1 << to - from + 1) - 1 << from;
@@ -998,6 +980,9 @@ public final class SlotSeries {
         int hour = 0;
         int way = 0;
         boolean fresh = false;
+        // The weeks that it came with; all of them are in it till a season ends.
+        int from = 0;
+        int to = 0;
         int all = 0;
         int flown = 0;
         int missed = 0;
@@ -1010,6 +995,8 @@ public final class SlotSeries {
             hour = other.hour;
             way = other.way;
             fresh = other.fresh;
+            from = other.from;
+            to = other.to;
             all = other.all;
             flown = other.flown;
             missed = other.missed;
@@ -1022,6 +1009,12 @@ public final class SlotSeries {
             day = newDay;
             hour = newHour;
             way = newWay;
+        }
+
+        void comeWith(int newFrom, int newTo) {
+            from = newFrom;
+            to = newTo;
+            openIn(spanBits(newFrom, newTo));
         }
 
         void openIn(int bits) {
@@ -1321,7 +1314,7 @@ public final class SlotSeries {
         void grant(Ask one, int hour) {
             Series made = addSeries();
             made.placeAt(one.carrier, one.day, hour, one.way);
-            made.openIn(one.wantedBits() & bitsFrom(now));
+            made.comeWith(Math.max(one.from, now), one.to);
             made.fresh = true;
         }
 
@@ -1664,13 +1657,12 @@ public final class SlotSeries {
             if (!isSign(';')) {
                 return fail(1);
             }
-            int bits = spanBits(from, to);
-            if (!season.hasPlace(day, hour, way, bits, 0)) {
+            if (!season.hasPlace(day, hour, way, spanBits(from, to), 0)) {
                 return fail(6);
             }
             Series made = season.addSeries();
             made.placeAt(carrier, day, hour, way);
-            made.openIn(bits);
+            made.comeWith(from, to);
             made.fresh = fresh;
             advance();
             return true;
@@ -1882,7 +1874,7 @@ public final class SlotSeries {
             putWord("series");
             putName(names, one.carrier);
             putPlace(one.day, one.hour, one.way);
-            putSpan(lowestBit(one.all), highestBit(one.all));
+            putSpan(one.from, one.to);
             if (one.fresh) {
                 putWord("new");
             }

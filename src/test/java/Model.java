@@ -15,13 +15,14 @@ final class Model {
             "ask", "by", "out", "mon", "tue", "wed", "thu", "fri", "sat", "sun");
 
     static final class Ser {
-        int carrier, day, hour, way;
+        int carrier, day, hour, way, cameFrom, cameTo;
         boolean fresh;
         int[] st = new int[30];
 
         Ser copy() {
             Ser c = new Ser();
             c.carrier = carrier; c.day = day; c.hour = hour; c.way = way; c.fresh = fresh;
+            c.cameFrom = cameFrom; c.cameTo = cameTo;
             c.st = st.clone();
             return c;
         }
@@ -69,6 +70,7 @@ final class Model {
         Ser made(int carrier, int d, int h, int way, int a, int b) {
             Ser s = new Ser();
             s.carrier = carrier; s.day = d; s.hour = h; s.way = way;
+            s.cameFrom = a; s.cameTo = b;
             for (int w = 0; w < 30; w++) s.st[w] = w >= a && w <= b ? OPEN : -1;
             return s;
         }
@@ -786,11 +788,8 @@ final class Model {
                 b.append("limit " + h + " " + st.lim[h] + " in " + st.limIn[h] + ";");
         for (String c : st.carriers) b.append("carrier " + c + ";");
         for (Ser s : st.series) {
-            int a = 0, z = 29;
-            while (s.st[a] < 0) a++;
-            while (z >= st.n || s.st[z] < 0) z--;
             b.append("series " + st.carriers.get(s.carrier) + " " + DAYS.get(s.day) + " " + s.hour
-                    + (s.way == 0 ? " in " : " out ") + a + "-" + z + (s.fresh ? " new;" : ";"));
+                    + (s.way == 0 ? " in " : " out ") + s.cameFrom + "-" + s.cameTo + (s.fresh ? " new;" : ";"));
         }
         for (Req r : st.asks)
             b.append("ask " + st.carriers.get(r.carrier) + " " + DAYS.get(r.day) + " " + r.hour

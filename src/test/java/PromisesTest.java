@@ -1192,12 +1192,14 @@ public final class PromisesTest {
         due(61, "the shorter OUT", x.octet(8), -1);
         text(x, "weeks 30;carrier a;series a mon 0 in 25-29;series a mon 0 in 0-29;ask a mon 0 in 0-29 by 1;");
         told(60, x, "weeks 30;carrier a;series a mon 0 in 25-29;series a mon 0 in 0-29;ask a mon 0 in 0-29 by 1;");
-        // The weeks that were given back stand in it till the season ends.
+        // The weeks that were given back stand in it, behind the season's end too.
         x.back(1, 20);
         told(60, x, "weeks 30;carrier a;series a mon 0 in 25-29;series a mon 0 in 0-29;ask a mon 0 in 0-29 by 1;");
         ticks(x, 30);
         x.ends();
-        told(60, x, "weeks 30;carrier a;series a mon 0 in 25-29;series a mon 0 in 0-19;");
+        due(49, "WEEKS of BASIS", x.series(1, 5), (1 << 20) - 1);
+        told(60, x, "weeks 30;carrier a;series a mon 0 in 25-29;series a mon 0 in 0-29;");
+        toldAfterEnds();
         // The longest text of all: it takes more than a TAPE, so part of it comes by acts.
         StringBuilder b = new StringBuilder("weeks 30;");
         for (int i = 0; i < 8; i++) b.append("carrier abcde" + (char) ('a' + i) + ";");
@@ -1210,6 +1212,45 @@ public final class PromisesTest {
         due(60, "the longest text", x.tell(), length);
         due(61, "its last byte", x.octet(length - 1), ';');
         due(61, "one behind it", x.octet(length), -1);
+    }
+
+    private static void toldAfterEnds() {
+        SlotSeries x = with("weeks 10;carrier a;carrier b;series a mon 1 in 5-9;series a mon 2 in 0-4;series b tue 3 out 0-9 new;ask b wed 4 in 0-9;ask a wed 4 out 1-9;");
+        ticks(x, 2);
+        x.undo();
+        // Of the first series only its last week is left: those ahead of it are GIVEN.
+        x.excuse(0, 9);
+        due(40, "gives", x.gives(0, 0), 4);
+        due(39, "back", x.back(2, 6), 4);
+        ticks(x, 1);
+        // The weeks that are gone by are none that a granted one comes with.
+        due(42, "pool()", x.pool(), 2);
+        due(39, "back of a granted one", x.back(3, 8), 2);
+        x.miss(1, 3);
+        x.miss(1, 4);
+        String want = "weeks 10;carrier a;carrier b;series a mon 1 in 5-9;series a mon 2 in 0-4;series b tue 3 out 0-9 new;series b wed 4 in 2-9 new;series a wed 4 out 2-9 new;";
+        told(60, x, want);
+        ticks(x, 8);
+        due(49, "ends()", x.ends(), 4);
+        due(49, "WEEKS of BASIS", x.series(0, 5), 512);
+        due(49, "WEEKS of BASIS", x.series(1, 5), 63);
+        due(49, "WEEKS of BASIS", x.series(2, 5), 252);
+        String kept = "weeks 10;carrier a;carrier b;series a mon 1 in 5-9;series b tue 3 out 0-9;series b wed 4 in 2-9;series a wed 4 out 2-9;";
+        told(60, x, kept);
+        due(44, "swap", x.swap(0, 1), 1);
+        told(60, x, "weeks 10;carrier a;carrier b;series a tue 3 out 5-9;series b mon 1 in 0-9;series b wed 4 in 2-9;series a wed 4 out 2-9;");
+        x.undo();
+        x.undo();
+        told(60, x, want);
+        x.ends();
+        due(39, "back in the next season", x.back(3, 5), 5);
+        ticks(x, 10);
+        due(49, "ends() again", x.ends(), 4);
+        due(49, "WEEKS of BASIS", x.series(3, 5), 28);
+        told(60, x, kept);
+        // Another TEXT brings its own.
+        text(x, "weeks 6;carrier a;series a mon 1 in 1-5;");
+        told(60, x, "weeks 6;carrier a;series a mon 1 in 1-5;");
     }
 
     private static void manyCalls() {
