@@ -22,6 +22,7 @@ public final class ActBoundsTest {
         partners();
         tell();
         octet();
+        lastCall();
         Story.finish("ActBoundsTest");
     }
 
@@ -444,6 +445,14 @@ public final class ActBoundsTest {
             gives(0, 7) = -2 !
             gives(0, -1) = -2 !
             """);
+        story("40: those that are GIVEN already stay so", """
+            text weeks 10;carrier a;series a mon 5 in 0-9;
+            back(0, 8) = 2
+            gives(0, 0) = 4
+            weeks(0, 4) = 1008
+            undo() = 1
+            weeks(0, 4) = 768
+            """);
         story("40: OPEN ones alone", """
             text weeks 10;carrier a;series a mon 5 in 0-9;
             miss(0, 4) = 1
@@ -458,8 +467,13 @@ public final class ActBoundsTest {
             undo() = 9
             tick() = 26
             gives(0, 0) = 0 !
-            4 x tick()
-            count(4) = 30
+            tick() = 27
+            gives(0, 0) = 0 !
+            tick() = 28
+            gives(0, 0) = 0 !
+            tick() = 29
+            gives(0, 0) = 0 !
+            tick() = 30
             gives(0, 0) = 0 !
             """);
         story("40: the least N", """
@@ -963,6 +977,22 @@ public final class ActBoundsTest {
         for (int i = 0; i < 24; i++) want.append("series abcde" + (char) ('a' + i % 8) + " " + days[i % 7] + " 23 out 10-29 new;");
         for (int i = 0; i < 24; i++) want.append("ask abcde" + (char) ('a' + i % 8) + " " + days[i % 7] + " 23 out 10-29 by 9;");
         story("60: the most that there can be", run + "told " + want + "\n");
+    }
+
+    private static void lastCall() {
+        story("an object is used for at most 512 calls", """
+            text weeks 5;carrier a;series a mon 5 in 0-4;ask a mon 6 in 0-4;
+            pool() = 1
+            5 x tick()
+            493 x would()
+            undo() = 5
+            tick() = 5
+            ends() = 2
+            miss(1, 0) = 0
+            tell() = 62
+            octet(0) = 119
+            octet(61) = 59
+            """);
     }
 
     private static void octet() {

@@ -10,6 +10,7 @@ public final class PoolBoundsTest {
         becomes();
         fitting();
         fits();
+        where();
         blocked();
         first();
         helps();
@@ -179,6 +180,14 @@ public final class PoolBoundsTest {
             limit(21, 0, 0) = 44
             where(1) = 23
             """);
+        story("III: at which it FITS: a later one may be full", """
+            text weeks 5;limit 9 0 in 0;limit 10 0 in 0;limit 11 1 in 1;carrier a;series a mon 11 in 0-4;ask a mon 10 in 0-4 by 1;ask a mon 10 in 0-4 by 2;
+            where(0) = -1
+            where(1) = 8
+            text weeks 5;limit 11 0 in 0;limit 10 0 in 0;limit 9 1 in 1;carrier a;series a mon 9 in 0-4;ask a mon 10 in 0-4 by 1;ask a mon 10 in 0-4 by 2;
+            where(0) = -1
+            where(1) = 8
+            """);
         story("III: an HOUR that takes no more coming in takes one going out", """
             text weeks 5;limit 5 1 in 0;carrier a;ask a mon 5 in 0-4 by 1;ask a mon 5 out 0-4 by 1;
             where(0) = 4
@@ -279,6 +288,7 @@ public final class PoolBoundsTest {
             count(2) = 23
             count(3) = 2
             """);
+        story("28: NONE at 24 SERIES, not at 23", manySeries(23, "ask a tue 1 in 0-4;ask a tue 1 in 0-4;") + "where(1) = 1\npool() = 1\nwhere(0) = -1\nundo() = 0\nwhere(0) = 1\n");
         story("III: 24 ASKS become 24 SERIES", manyAsks(24) + """
             would() = 24
             pool() = 24
@@ -315,6 +325,17 @@ public final class PoolBoundsTest {
             undo() = 0
             count(3) = 4
             asked(1, 6) = 9
+            """);
+        story("31, 51, 52: by limits as they are, of the first HOUR too", """
+            text weeks 9;limit 0 0 in 0;carrier c;carrier d;carrier e;series c mon 1 in 0-8;series e mon 1 in 0-8;series e mon 2 in 0-8;ask c mon 0 in 0-8;ask c mon 5 in 0-7;ask d mon 6 in 0-4;ask e mon 7 in 0-4;
+            turn(0) = 0
+            turn(3) = 1
+            turn(1) = 2
+            turn(2) = 3
+            granted(0) = -1
+            would() = 3
+            where(0) = -1
+            pool() = 3
             """);
         story("42: (0: no act), of none that wait", """
             text weeks 5;carrier a;
@@ -389,6 +410,30 @@ public final class PoolBoundsTest {
             fits(2) = -1
             fits(3) = -2
             fits(-1) = -2
+            """);
+    }
+
+    private static void where() {
+        story("28: if it were looked at now alone; NONE: it would not", """
+            text weeks 9;limit 5 1 in 1;limit 6 0 in 0;carrier a;ask a mon 5 in 0-8;ask a mon 5 in 0-4;ask a mon 5 in 0-4 by 1;ask a mon 6 in 4-8;
+            where(0) = 5
+            where(1) = 5
+            where(2) = 5
+            where(3) = -1
+            granted(0) = 5
+            granted(1) = -1
+            granted(2) = 4
+            granted(3) = -1
+            pool() = 2
+            where(0) = -1
+            where(1) = -1
+            where(2) = -2
+            where(-1) = -2
+            undo() = 0
+            where(1) = 5
+            5 x tick()
+            where(0) = 5
+            where(1) = -1
             """);
     }
 

@@ -434,6 +434,15 @@ public final class SeasonBoundsTest {
             room(0, 0, 4, 1) = 1
             room(8, 6, 23, 0) = 4
             """);
+        story("16: coming in, beside others that come in", """
+            text weeks 9;limit 1 9 in 2;limit 2 2 in 2;carrier a;series a mon 1 in 0-4;series a mon 2 in 0-4;
+            room(0, 0, 1, 0) = 1
+            room(0, 0, 1, 1) = 8
+            room(5, 0, 1, 0) = 2
+            room(5, 0, 1, 1) = 9
+            room(0, 0, 2, 0) = 1
+            room(0, 0, 2, 1) = 1
+            """);
         story("16: none, where past WEEKS hold more than the limit", """
             text weeks 10;limit 8 1 in 1;carrier a;series a mon 8 in 0-9;series a mon 9 in 0-4;
             5 x tick()
@@ -609,6 +618,18 @@ public final class SeasonBoundsTest {
             excuse(1, 0) = 1
             best(0) = 0
             """);
+        story("23: of all DAYS, and of BASIS 1", """
+            text weeks 9;carrier a;carrier b;carrier c;series b sun 1 in 4-8;series c tue 1 in 4-8;series c wed 1 in 0-4;
+            back(0, 5) = 4
+            use(0, 0) = 1
+            best(0) = 1
+            best(1) = 2
+            best(2) = 0
+            excuse(2, 0) = 1
+            best(0) = 2
+            best(1) = 1
+            best(2) = 0
+            """);
         story("23: NONE: not so many, of none and of 8", """
             text weeks 5;
             best(0) = -1
@@ -774,6 +795,10 @@ public final class SeasonBoundsTest {
             idle(7) = -2
             idle(-1) = -2
             """);
+        story("35: one that goes out is LOAD", """
+            text weeks 9;carrier a;series a mon 5 out 4-8;
+            idle(0) = 16777183
+            """);
         story("35: GIVEN ones are no LOAD", """
             text weeks 9;carrier a;series a mon 5 in 4-8;
             idle(0) = 16777183
@@ -839,6 +864,14 @@ public final class SeasonBoundsTest {
             longest(1) = -2
             longest(-1) = -2
             """);
+        story("55: no WEEK comes behind the last", """
+            text weeks 5;carrier a;series a mon 1 in 0-4;
+            miss(0, 0) = 0
+            miss(0, 4) = -1
+            longest(0) = 1
+            miss(0, 3) = -1
+            longest(0) = 2
+            """);
         story("55: FLOWN, EXCUSED, GIVEN ones lie between", """
             text weeks 12;carrier a;series a mon 1 in 0-11;
             miss(0, 0) = 1
@@ -873,6 +906,20 @@ public final class SeasonBoundsTest {
             pairs(0, 0, 1) = 3
             pairs(0, 0, 23) = 3
             pairs(1, 0, 23) = 0
+            """);
+        story("58: no HOUR comes behind the last", """
+            text weeks 9;carrier a;series a mon 23 in 0-8;series a mon 0 out 0-8;series a tue 0 out 0-8;series a sun 23 out 0-8;
+            pairs(0, 0, 23) = 0
+            pairs(0, 1, 23) = 0
+            pairs(0, 6, 23) = 0
+            retime(1, 23) = 0
+            pairs(0, 0, 0) = 1
+            """);
+        story("58: whichever of them was told ahead", """
+            text weeks 9;carrier a;series a mon 6 out 0-8;series a mon 6 in 0-8;
+            pairs(0, 0, 0) = 1
+            text weeks 9;carrier a;series a mon 6 in 0-8;series a mon 6 out 0-8;
+            pairs(0, 0, 0) = 1
             """);
         story("58: that have a WEEK in common (GIVEN ones not)", """
             text weeks 10;carrier a;series a mon 5 in 0-4;series a mon 5 out 5-9;series a mon 5 out 4-8;

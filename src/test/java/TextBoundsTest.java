@@ -590,6 +590,8 @@ public final class TextBoundsTest {
         story("4: a FAULT at the 1200th byte, and at the end behind it", "tape weeks 5;" + "\\n".repeat(1191) + "?\n"
                 + "text() = -4\nfault(0) = 1\nfault(1) = 1199\n"
                 + "tape weeks " + "0".repeat(1193) + "5\ntext() = -4\nfault(0) = 1\nfault(1) = 1200\n"
+                + "tape weeks 5;" + " ".repeat(1186) + "carrie\ntext() = -4\nfault(0) = 1\nfault(1) = 1194\n"
+                + "tape weeks 5;" + " ".repeat(1185) + "carrier\ntext() = -4\nfault(0) = 1\nfault(1) = 1200\n"
                 + "tape weeks " + "0".repeat(1192) + "5;\ntext() = 1\nfault(0) = 0\n");
     }
 
