@@ -1,3 +1,5 @@
+import java.io.PrintWriter;
+import java.io.StringWriter;
 import java.lang.management.ManagementFactory;
 import java.lang.reflect.Field;
 import java.lang.reflect.Method;
@@ -9,14 +11,20 @@ import java.util.ArrayList;
 import java.util.Arrays;
 import java.util.HashSet;
 import java.util.List;
+import java.util.Map;
 import java.util.Set;
+import java.util.TreeMap;
 import java.util.TreeSet;
 import java.util.regex.Matcher;
 import java.util.regex.Pattern;
+import java.util.spi.ToolProvider;
 
 /** What of LANGUAGE.md can be seen in the source, by reflection, and by what the calls make. */
 public final class LanguageTest {
     private static final String SOURCE = "src/main/java/SlotSeries.java";
+    private static final String MAKER = "<init>";
+    private static final Set<String> LIBRARY = Set.of("java.lang.Object.<init>", "java.lang.String.length", "java.lang.String.charAt",
+            "java.lang.Math.min", "java.lang.Math.max", "java.lang.Integer.bitCount");
     private static int wrong = 0;
 
     private static void must(boolean holds, String what) {
@@ -34,6 +42,7 @@ public final class LanguageTest {
         inside();
         words(bare);
         methods(bare);
+        bytecode();
         madeByCalls();
         System.out.println(wrong == 0 ? "the language is kept to" : wrong + " things outside the language");
         if (wrong > 0) System.exit(1);
@@ -126,6 +135,51 @@ public final class LanguageTest {
                 from = -1;
             }
         }
+    }
+
+    /** What javac makes of it: which calls it holds, how deep they go, and where something is made. */
+    private static void bytecode() {
+        Map<String, Set<String>> calls = new TreeMap<>();
+        String type = "", method = "";
+        for (String line : disassembled().split("\n")) {
+            Matcher t = Pattern.compile("^[a-z ]*class (\\S+) .*").matcher(line);
+            Matcher m = Pattern.compile("^  (?:[\\w$\\[\\]]+ )*([\\w$]+)\\(.*\\);").matcher(line);
+            Matcher c = Pattern.compile(".* invoke\\w+ .*// Method (\\S+?):.*").matcher(line);
+            if (t.matches()) {
+                type = t.group(1);
+            } else if (m.matches()) {
+                method = type + "." + (m.group(1).equals(type) ? MAKER : m.group(1));
+                calls.put(method, new TreeSet<>());
+            } else if (c.matches()) {
+                String called = c.group(1).replace('/', '.').replace("\"", "");
+                calls.get(method).add(called.contains(".") ? called : type + "." + called);
+            }
+            must(!line.matches(" +\\d+: (athrow|monitorenter|invokedynamic|invokeinterface)\\b.*"), "in " + method + ": " + line.trim());
+            must(!line.matches(" +\\d+: (new|newarray|anewarray|multianewarray) .*") || method.endsWith(MAKER), "made in " + method + ": " + line.trim());
+        }
+        must(calls.size() > 60, "only " + calls.size() + " methods were seen");
+        for (String each : List.copyOf(calls.keySet())) deepFrom(each, calls, List.of());
+    }
+
+    private static String disassembled() {
+        List<String> args = new ArrayList<>(List.of("-c", "-p", "-cp", System.getProperty("java.class.path"), SlotSeries.class.getName()));
+        for (Class<?> c : SlotSeries.class.getDeclaredClasses()) args.add(c.getName());
+        StringWriter out = new StringWriter();
+        PrintWriter to = new PrintWriter(out);
+        int failed = ToolProvider.findFirst("javap").orElseThrow().run(to, to, args.toArray(new String[0]));
+        must(failed == 0, "javap failed: " + out);
+        return out.toString();
+    }
+
+    /** No method calls itself, by way of others neither; at most eight stand open at once, the library's too. */
+    private static void deepFrom(String method, Map<String, Set<String>> calls, List<String> open) {
+        List<String> now = new ArrayList<>(open);
+        now.add(method);
+        must(!open.contains(method), "recursion: " + now);
+        must(now.size() <= 8, "more than eight deep: " + now);
+        must(calls.containsKey(method) || LIBRARY.contains(method), "the library: " + now);
+        if (open.contains(method) || now.size() > 8) return;
+        for (String next : calls.getOrDefault(method, Set.of())) deepFrom(next, calls, now);
     }
 
     private static SlotSeries x;

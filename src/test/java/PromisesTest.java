@@ -46,7 +46,7 @@ public final class PromisesTest {
 
     private static String out(SlotSeries x) {
         StringBuilder b = new StringBuilder();
-        for (int i = 0; x.octet(i) >= 0; i++) b.append((char) x.octet(i));
+        for (int i = 0, octet = x.octet(0); octet >= 0; octet = x.octet(++i)) b.append((char) octet);
         return b.toString();
     }
 
@@ -1163,11 +1163,21 @@ public final class PromisesTest {
         noSuch(58, "pairs", x.pairs(2, 0, 0), x.pairs(-1, 0, 0), x.pairs(0, 7, 0), x.pairs(0, -1, 0), x.pairs(0, 0, 24), x.pairs(0, 0, -1), x.pairs(MAX, MIN, MAX));
     }
 
+    private static final String TOLD_LATER = " weeks  12 ;limit 23 4 in 3; limit 0 0 in 0;limit 5 4 in 4;carrier abcdef;carrier b;ask b mon 0 out 0-11 by 9;series b sun 23 out 7-11 new;\nask b tue 10 in 0-4 by 0;series abcdef wed 1 in 0-10;";
+
+    private static void someActs(SlotSeries x) {
+        x.back(1, 9);
+        x.retime(0, 3);
+        x.hand(1, 1);
+        x.limit(5, 9, 0);
+    }
+
+    /** Octets are many calls, and an object has 512: what is told later is told by objects of their own. */
     private static void telling() {
         SlotSeries x = new SlotSeries();
         due(60, "tell() without a TEXT", x.tell(), -2);
         due(61, "octet ahead of any", x.octet(0), -1);
-        text(x, " weeks  12 ;limit 23 4 in 3; limit 0 0 in 0;limit 5 4 in 4;carrier abcdef;carrier b;ask b mon 0 out 0-11 by 9;series b sun 23 out 7-11 new;\nask b tue 10 in 0-4 by 0;series abcdef wed 1 in 0-10;");
+        text(x, TOLD_LATER);
         String want = "weeks 12;limit 0 0 in 0;limit 23 4 in 3;carrier abcdef;carrier b;series b sun 23 out 7-11 new;series abcdef wed 1 in 0-10;ask b mon 0 out 0-11 by 9;ask b tue 10 in 0-4;";
         told(60, x, want);
         due(61, "octet(0)", x.octet(0), 'w');
@@ -1176,34 +1186,47 @@ public final class PromisesTest {
         due(61, "octet(-1)", x.octet(-1), -1);
         due(61, "octet(far)", x.octet(MAX), -1);
         due(61, "octet(far)", x.octet(MIN), -1);
-        x.back(1, 9);
-        x.retime(0, 3);
-        x.hand(1, 1);
-        x.limit(5, 9, 0);
+        someActs(x);
         due(61, "OUT stays, whatever came", out(x).equals(want) ? 1 : 0, 1);
+        toldBehindActs();
+        toldGivenBack();
+        toldAfterEnds();
+        toldTheLongest();
+    }
+
+    private static void toldBehindActs() {
+        SlotSeries x = with(TOLD_LATER);
+        x.tell();
+        someActs(x);
         x.tick();
         x.drop(0);
         x.pool();
-        want = "weeks 12;limit 0 0 in 0;limit 5 9 in 0;limit 23 4 in 3;carrier abcdef;carrier b;series b sun 3 out 7-11 new;series b wed 1 in 0-10;series b tue 10 in 1-4 new;";
+        String want = "weeks 12;limit 0 0 in 0;limit 5 9 in 0;limit 23 4 in 3;carrier abcdef;carrier b;series b sun 3 out 7-11 new;series b wed 1 in 0-10;series b tue 10 in 1-4 new;";
         told(60, x, want);
         text(x, "weeks 5;");
         due(61, "OUT stays behind text()", out(x).equals(want) ? 1 : 0, 1);
         told(60, x, "weeks 5;");
         due(61, "the shorter OUT", x.octet(8), -1);
-        text(x, "weeks 30;carrier a;series a mon 0 in 25-29;series a mon 0 in 0-29;ask a mon 0 in 0-29 by 1;");
-        told(60, x, "weeks 30;carrier a;series a mon 0 in 25-29;series a mon 0 in 0-29;ask a mon 0 in 0-29 by 1;");
-        // The weeks that were given back stand in it, behind the season's end too.
+    }
+
+    /** The weeks that were given back stand in it, behind the season's end too. */
+    private static void toldGivenBack() {
+        String want = "weeks 30;carrier a;series a mon 0 in 25-29;series a mon 0 in 0-29;ask a mon 0 in 0-29 by 1;";
+        SlotSeries x = with(want);
+        told(60, x, want);
         x.back(1, 20);
-        told(60, x, "weeks 30;carrier a;series a mon 0 in 25-29;series a mon 0 in 0-29;ask a mon 0 in 0-29 by 1;");
+        told(60, x, want);
         ticks(x, 30);
         x.ends();
         due(49, "WEEKS of BASIS", x.series(1, 5), (1 << 20) - 1);
         told(60, x, "weeks 30;carrier a;series a mon 0 in 25-29;series a mon 0 in 0-29;");
-        toldAfterEnds();
-        // The longest text of all: it takes more than a TAPE, so part of it comes by acts.
+    }
+
+    /** The longest text of all takes more than a TAPE, so part of it comes by acts. */
+    private static void toldTheLongest() {
         StringBuilder b = new StringBuilder("weeks 30;");
         for (int i = 0; i < 8; i++) b.append("carrier abcde" + (char) ('a' + i) + ";");
-        x = with(b.toString());
+        SlotSeries x = with(b.toString());
         for (int h = 0; h < 24; h++) x.limit(h, 9, 9);
         for (int i = 0; i < 24; i++) x.ask(i % 8, 1000 * (i % 7) + 231, 10, 29, 9);
         due(42, "24 granted", x.pool(), 24);
@@ -1214,7 +1237,8 @@ public final class PromisesTest {
         due(61, "one behind it", x.octet(length), -1);
     }
 
-    private static void toldAfterEnds() {
+    /** At NOW 2: weeks of each sort, two that were granted, one of which gave some back. */
+    private static SlotSeries midSeason() {
         SlotSeries x = with("weeks 10;carrier a;carrier b;series a mon 1 in 5-9;series a mon 2 in 0-4;series b tue 3 out 0-9 new;ask b wed 4 in 0-9;ask a wed 4 out 1-9;");
         ticks(x, 2);
         x.undo();
@@ -1228,17 +1252,26 @@ public final class PromisesTest {
         due(39, "back of a granted one", x.back(3, 8), 2);
         x.miss(1, 3);
         x.miss(1, 4);
+        return x;
+    }
+
+    private static void toldAfterEnds() {
         String want = "weeks 10;carrier a;carrier b;series a mon 1 in 5-9;series a mon 2 in 0-4;series b tue 3 out 0-9 new;series b wed 4 in 2-9 new;series a wed 4 out 2-9 new;";
+        String kept = "weeks 10;carrier a;carrier b;series a mon 1 in 5-9;series b tue 3 out 0-9;series b wed 4 in 2-9;series a wed 4 out 2-9;";
+        SlotSeries x = midSeason();
         told(60, x, want);
         ticks(x, 8);
         due(49, "ends()", x.ends(), 4);
         due(49, "WEEKS of BASIS", x.series(0, 5), 512);
         due(49, "WEEKS of BASIS", x.series(1, 5), 63);
         due(49, "WEEKS of BASIS", x.series(2, 5), 252);
-        String kept = "weeks 10;carrier a;carrier b;series a mon 1 in 5-9;series b tue 3 out 0-9;series b wed 4 in 2-9;series a wed 4 out 2-9;";
         told(60, x, kept);
         due(44, "swap", x.swap(0, 1), 1);
         told(60, x, "weeks 10;carrier a;carrier b;series a tue 3 out 5-9;series b mon 1 in 0-9;series b wed 4 in 2-9;series a wed 4 out 2-9;");
+        x = midSeason();
+        ticks(x, 8);
+        x.ends();
+        x.swap(0, 1);
         x.undo();
         x.undo();
         told(60, x, want);
